@@ -463,13 +463,14 @@ public final class BorrowedTears {
         return common > 0 ? (upper ? above : below) / common : 0;
     }
 
-    /** People as they are at one time: all that an act changes, and what a land tells of them. */
+    // What acts change and what only a land tells stand together: so that one copy serves acts,
+    // slots, years and waiting alike.
     private static final class People {
         final int[] sorrow = new int[MOST_PEOPLE];
         final int[] age = new int[MOST_PEOPLE];
         final int[] kind = new int[MOST_PEOPLE];
         final int[] kin = new int[MOST_PEOPLE];
-        // Row by row: what a person owes to each one.
+        // In one row, since a copy of rows of rows would make more objects than all else.
         final int[] owed = new int[MOST_PEOPLE * MOST_PEOPLE];
         int count;
         int open;
@@ -540,7 +541,7 @@ public final class BorrowedTears {
             }
         }
 
-        /** Those told behind a person that are no kin of it so far. */
+        // The lesser one of a pair is told first: only later ones can be told with it.
         int laterStrangers(int person) {
             return has(person) ? everyone() & ~kin[person] & -(2 << person) : 0;
         }
@@ -566,7 +567,7 @@ public final class BorrowedTears {
             return sum;
         }
 
-        /** Whether a person would be fit to weep, were the other one bereaved and itself not. */
+        // Apart from mayWeep, since a chance asks it of funerals that have not come.
         boolean isFitFor(int person, int other) {
             return ounces(person) >= 1 && !areKin(person, other);
         }
@@ -611,7 +612,7 @@ public final class BorrowedTears {
             return has(person) && has(other) ? owed[person * MOST_PEOPLE + other] : 0;
         }
 
-        /** Whom one comes to by going on, once or more, to one that is owed a funeral. */
+        // As many steps as people can be: a longer way has been somewhere twice.
         int reachedByDebts(int person) {
             int reached = creditors(person);
             for (int step = 0; step < MOST_PEOPLE; step++) {
@@ -634,7 +635,7 @@ public final class BorrowedTears {
             return bits;
         }
 
-        /** A funeral opens, if there is such a person and it has none. */
+        // A year's lot names anybody, so this looks for itself whether it can be; and weepFor too.
         void bereave(int person) {
             if (has(person) && !isOpen(person)) {
                 sorrow[person] = FRESH_SORROW;
@@ -643,7 +644,6 @@ public final class BorrowedTears {
             }
         }
 
-        /** The ounces wept; 0 if one may not weep for the other. */
         int weepFor(int person, int other) {
             if (!has(person) || !mayWeep(person, other)) {
                 return 0;
@@ -680,7 +680,7 @@ public final class BorrowedTears {
         }
     }
 
-    /** The text, and the people that it tells as far as it could be read. */
+    // It reads into people of its own: a text with a fault leaves the land as it is.
     private static final class LandText {
         final int[] letters = new int[MOST_LETTERS];
         final People told = new People();
@@ -695,7 +695,6 @@ public final class BorrowedTears {
             return true;
         }
 
-        /** The fault, or NONE: then those told are the people of the land. */
         int readLand() {
             told.clear();
             if (letterAt(0) != 'T') {
@@ -719,7 +718,6 @@ public final class BorrowedTears {
             return place >= 0 && place < length && place < MOST_LETTERS ? letters[place] : -1;
         }
 
-        /** A digit's number; -1 where no digit stands. */
         private int digitAt(int place) {
             int letter = letterAt(place);
             return letter >= '0' && letter <= '9' ? letter - '0' : -1;
@@ -772,7 +770,7 @@ public final class BorrowedTears {
         }
     }
 
-    /** How things stood ahead of each act that can be undone. */
+    // Whole standings are kept, not what changed: what a week took at 0 or at 99 can't be told back.
     private static final class Acts {
         final People[] before = new People[MOST_ACTS];
         int first;
@@ -806,7 +804,7 @@ public final class BorrowedTears {
         }
     }
 
-    /** The way by which most open funerals are served, by least ounces, the first such one. */
+    // It is given who is bereaved and who is free, as shares and chances ask of others than now.
     private static final class Service {
         int bereaved;
         int most;

@@ -1,3 +1,5 @@
+import java.util.Arrays;
+
 /** Promises 22 to 25: two who offer, deaths by chance, the seed and its years. */
 public final class ChancesTest {
     public static void main(String[] args) {
@@ -6,6 +8,7 @@ public final class ChancesTest {
         chances();
         seeds();
         years();
+        yearAfterYear();
         yearsChangeNothing();
         Due.end("ChancesTest");
     }
@@ -100,15 +103,42 @@ public final class ChancesTest {
         Due.due("refused years leave it", tears.seed(0L), 0L);
     }
 
-    /** A seed whose next lot is the one wanted. */
-    private static long seedBefore(int lot) {
-        for (long seed = 0; seed < 100000; seed++) {
-            long next = seed * 6364136223846793005L + 1442695040888963407L;
-            if ((next >>> 33) % 50 == lot) {
+    /** A seed whose next lots are those wanted. */
+    private static long seedBefore(int... lots) {
+        for (long seed = 0; seed < 10000000; seed++) {
+            long next = seed;
+            int fits = 0;
+            while (fits < lots.length) {
+                next = next * 6364136223846793005L + 1442695040888963407L;
+                if ((next >>> 33) % 50 != lots[fits]) {
+                    break;
+                }
+                fits++;
+            }
+            if (fits == lots.length) {
                 return seed;
             }
         }
-        throw new IllegalStateException("no seed for " + lot);
+        throw new IllegalStateException("no seed for " + Arrays.toString(lots));
+    }
+
+    private static void someYears(String what, String land, int want, int... lots) {
+        BorrowedTears tears = Due.landOf(land);
+        tears.seed(seedBefore(lots));
+        Due.due("years, " + what, tears.years(lots.length), want);
+    }
+
+    private static void yearAfterYear() {
+        someYears("one waits for a week", "TP950P910", 1, 9, 1);
+        someYears("too young for two weeks", "TP950P900", 0, 9, 1);
+        someYears("kin by what was wept", "TP950P950", 1, 1, 1);
+        someYears("wept for by two", "TP950P950P950", 2, 1, 2);
+        someYears("one is fresh again", "TP950P950P950", 0, 19, 1);
+        someYears("an open funeral stays", "TP950P950P950", 1, 9, 9, 1);
+        someYears("one that weeps has less, and wears", "TP950P320P950", 1, 1, 21);
+        someYears("one ounce is wept", "TP950P320", 1, 1);
+        someYears("by one that there is not", "TP950P950", 0, 2);
+        someYears("for one that there is not", "TP950P950", 0, 20, 21, 30, 40);
     }
 
     private static void year(String what, BorrowedTears tears, int lot, int want) {

@@ -5,6 +5,7 @@ public final class LandTest {
         writing();
         faultsOfPeople();
         faultsOfKin();
+        faultsOfLaterTexts();
         landing();
         landingAnew();
         aboutAll();
@@ -117,6 +118,23 @@ public final class LandTest {
         fault(five + "K32", 23);
     }
 
+    private static void faultsOfLaterTexts() {
+        BorrowedTears tears = Due.withText("TP000P000K01");
+        Due.due("fault", tears.fault(), -9);
+        Due.due("fault asked again", tears.fault(), -9);
+        Due.due("land", tears.land(), 2);
+        Due.due("land of the same text", tears.land(), 2);
+        tears.wipe();
+        tears.write('T');
+        Due.due("nothing stands behind a shorter text", tears.fault(), -9);
+        for (int length = 2; length <= 4; length++) {
+            tears.write(length == 2 ? 'P' : '0');
+            Due.due("nothing stands behind a half one", tears.fault(), length);
+        }
+        tears.write('0');
+        Due.due("fault", tears.fault(), -9);
+    }
+
     private static void landing() {
         BorrowedTears tears = new BorrowedTears();
         Due.due("land of an empty text", tears.land(), -3);
@@ -178,6 +196,15 @@ public final class LandTest {
         Due.due("fewer people", tears.land(), 1);
         Due.due("fewer people", tears.person(1, 0), -1);
         Due.due("fewer people", tears.about(6), 1);
+        Due.tell(tears, "T");
+        Due.due("nobody any more", tears.land(), 0);
+        Due.due("nobody any more", tears.about(6), 0);
+        tears = Due.landOf("TP950P950P950K01K12");
+        Due.tell(tears, "TP950P950P950K02");
+        Due.due("other kin", tears.land(), 3);
+        Due.due("other kin", tears.person(0, 3), 4);
+        Due.due("other kin", tears.person(1, 3), 0);
+        Due.due("other kin", tears.person(2, 3), 1);
     }
 
     private static void aboutAll() {
@@ -233,6 +260,8 @@ public final class LandTest {
         Due.due("both", tears.person(1, 5), 12);
         Due.due("with a funeral itself", tears.person(2, 5), 0);
         Due.due("with no ounces", tears.person(4, 5), 0);
+        tears.funeral(0);
+        Due.due("three", tears.person(1, 5), 13);
         Due.due("person(5)", tears.person(5, 0), -1);
         Due.due("person(-1)", tears.person(-1, 0), -1);
         Due.due("person(-1, 9)", tears.person(-1, 9), -1);

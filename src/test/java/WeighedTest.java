@@ -41,6 +41,8 @@ public final class WeighedTest {
         weight(tears, 5, 6, 1, 1, 4);
         weight(tears, 9, 3, 1, 0, 9);
         weight(tears, 20, 5, 1, 0, 20);
+        weight(Due.landOf("TP920P920P920"), 7, 8, 3, 0, 0);
+        weight(Due.landOf("TP920P920P993"), 7, 8, 1, 4, 3);
         tears.funeral(0);
         weight(tears, 1, 0, 1, 0, 1);
         weight(tears, 1, 2, 1, 1, 0);
