@@ -2,15 +2,36 @@
 final class Due {
     private static int asked = 0;
     private static int wrong = 0;
+    private static String words = "";
+    private static int askedBefore = 0;
 
     private Due() {
+    }
+
+    /** What is asked from here on holds this sentence of the document, until the next one is told. */
+    static void sentence(String itsWords) {
+        endSentence();
+        words = itsWords;
+        askedBefore = asked;
+    }
+
+    private static void endSentence() {
+        if (!words.isEmpty() && asked == askedBefore) {
+            wrong++;
+            System.out.println("[" + words + "] nothing is asked of it");
+        }
+        words = "";
+    }
+
+    private static void tellWrong(String what) {
+        wrong++;
+        System.out.println((words.isEmpty() ? "" : "[" + words + "] ") + what);
     }
 
     static void due(String call, long got, long want) {
         asked++;
         if (got != want) {
-            wrong++;
-            System.out.println(call + " answered " + got + ", due is " + want);
+            tellWrong(call + " answered " + got + ", due is " + want);
         }
     }
 
@@ -54,15 +75,35 @@ final class Due {
         return all.toString();
     }
 
+    /**
+     * How things stand, and what only going on from there shows: the acts behind, what is kept, the
+     * seed, the bytes of the text. It uses the object up.
+     */
+    static String everything(BorrowedTears tears) {
+        StringBuilder all = new StringBuilder(standing(tears));
+        all.append("; fault ").append(tears.fault()).append("; seed ").append(tears.seed(0L));
+        all.append("; acts ").append(tears.about(4));
+        for (int left = tears.about(4); left > 0; left--) {
+            all.append("; undo ").append(tears.undo()).append(": ").append(standing(tears));
+        }
+        all.append("; undo ").append(tears.undo());
+        for (int slot = 0; slot <= 1; slot++) {
+            all.append("; again ").append(tears.again(slot)).append(": ").append(standing(tears));
+        }
+        all.append("; land ").append(tears.land()).append(": ").append(standing(tears));
+        all.append("; write ").append(tears.write('P')).append("; fault ").append(tears.fault());
+        return all.append("; wipe ").append(tears.wipe()).toString();
+    }
+
     static void same(String what, String got, String want) {
         asked++;
         if (!got.equals(want)) {
-            wrong++;
-            System.out.println(what + ": stands " + got + ", due is " + want);
+            tellWrong(what + ": stands " + got + ", due is " + want);
         }
     }
 
     static void end(String name) {
+        endSentence();
         System.out.println(name + ": " + asked + " answers, " + wrong + " not as due");
         if (wrong != 0 || asked == 0) {
             System.exit(1);
