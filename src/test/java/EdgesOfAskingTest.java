@@ -47,6 +47,8 @@ public final class EdgesOfAskingTest {
         Due.sentence("SERVED: all have an open FUNERAL");
         service("all", bereaved(FIVE, 0, 1, 2, 3, 4), 0, 0, 0);
         service("one alone", bereaved("TP950", 0), 0, 0, 0);
+        service("soft ones, with ounces", bereaved("TP902P902P902P902P902", 0, 1, 2, 3, 4), 0, 0, 0);
+        service("a soft one, with ounces", bereaved("TP902P950P950", 0, 1), 1, 3, 3);
         Due.sentence("SERVED: given to PEOPLE that MAY weep for them now");
         service("too young", bereaved("TP910P950", 1), 0, 0, 0);
         service("kin", bereaved("TP950P950K01", 1), 0, 0, 0);
@@ -85,6 +87,7 @@ public final class EdgesOfAskingTest {
         Due.due("none is open", Due.landOf("TP000").nobody(0), 0);
         Due.due("one alone", bereaved("TP950", 0).nobody(0), 1);
         Due.due("all five", bereaved(FIVE, 0, 1, 2, 3, 4).nobody(0), 31);
+        Due.due("soft ones, with ounces", bereaved("TP902P902P902", 0, 1, 2).nobody(0), 7);
         Due.due("four and one who may", bereaved(FIVE, 0, 1, 2, 3).nobody(0), 0);
         Due.due("four and kin of one", bereaved(FIVE + "K24", 0, 1, 2, 3).nobody(0), 4);
         Due.due("of age by a week", bereaved("TP910P950", 1).nobody(0), 2);
@@ -197,6 +200,10 @@ public final class EdgesOfAskingTest {
         Due.sentence("SHARE: 0, if it has an open FUNERAL");
         share("all have one", bereaved(FIVE, 0, 1, 2, 3, 4), 4, 0, 1);
         share("its own", bereaved(FIVE, 2), 2, 0, 1);
+        share("a soft one alone", bereaved("TP902", 0), 0, 0, 1);
+        share("a soft one that could weep", bereaved("TP902P950P950", 0, 1), 0, 0, 1);
+        share("the one beside it", bereaved("TP902P950P950", 0, 1), 2, 1, 1);
+        share("nobody else may", bereaved("TP902P950P993", 0, 1), 0, 0, 1);
         Due.sentence("SHARE: no open FUNERALS");
         share("one alone", Due.landOf("TP950"), 0, 0, 1);
         share("five", Due.landOf(FIVE), 4, 0, 1);
@@ -205,6 +212,7 @@ public final class EdgesOfAskingTest {
         share("two come for three", bereaved(FIVE, 0, 1, 2), 4, 1, 1);
         share("three come for two", bereaved(FIVE, 0, 1), 4, 2, 3);
         share("four come for one", bereaved(FIVE, 0), 4, 1, 4);
+        share("two beside a soft one that is bereaved", bereaved("TP902P950P950", 0), 1, 1, 2);
         share("kin of all", bereaved(FIVE + "K04", 0), 4, 0, 1);
         share("three others", bereaved(FIVE + "K04", 0), 1, 1, 3);
         share("the only one", bereaved(FIVE + "K04K03K02", 0), 1, 1, 1);
@@ -290,6 +298,8 @@ public final class EdgesOfAskingTest {
         rest("neither has an ounce", bereaved("TP220P910P950", 2), 0, 1, 1, 0);
         rest("the one has an open FUNERAL", bereaved(FIVE, 2, 0), 0, 4, 1, 0);
         rest("all have an open FUNERAL", bereaved(FIVE, 0, 1, 2, 3, 4), 0, 4, 1, 0);
+        rest("both soft, with an open FUNERAL", bereaved("TP902P902P902", 0, 1, 2), 0, 1, 1, 0);
+        rest("one soft, with an open FUNERAL", bereaved("TP902P902P902", 1, 2), 0, 1, 1, 0);
     }
 
     private static void chance(String what, BorrowedTears tears, int x, int above, int below) {
@@ -320,6 +330,8 @@ public final class EdgesOfAskingTest {
         chance("three are open, none comes", bereaved(FIVE, 0, 1, 2), 0, 0, 1);
         chance("one is open", bereaved("TP950P950", 0), 3, 7, 10);
         chance("one is open and can't be served", bereaved("TP950P950K01", 0), 3, 0, 1);
+        chance("soft ones, to whom one comes", Due.landOf("TP902P902"), 5, 3, 4);
+        chance("a soft one, open already", bereaved("TP902P950", 0), 5, 1, 2);
     }
 
     private static void fractions() {
@@ -437,6 +449,14 @@ public final class EdgesOfAskingTest {
         tears.week();
         year("nobody may yet", tears, 1, 0);
         twoYears("it weeps the year behind", tears, 9, 1, 1);
+        Due.sentence("YEARS: that other one weeps for the PERSON, if it MAY");
+        twoYears("soft, with an open FUNERAL itself", Due.landOf("TP902P902"), 9, 10, 0);
+        twoYears("soft, with a later one itself", Due.landOf("TP902P902"), 9, 19, 0);
+        twoYears("kin by what it wept", Due.landOf(FIVE), 1, 1, 1);
+        twoYears("kin by what it wept, told later", Due.landOf(FIVE), 10, 10, 1);
+        twoYears("kin by what it wept, the last one", Due.landOf(FIVE), 34, 34, 1);
+        twoYears("an ounce, and none is left", Due.landOf("TP320P950P950"), 10, 20, 1);
+        twoYears("as many as may", Due.landOf(FIVE), 10, 20, 2);
         Due.sentence("YEARS: then a WEEK goes by");
         twoYears("old enough a week later", Due.landOf("TP950P910"), 9, 1, 1);
         twoYears("not old enough yet", Due.landOf("TP950P900"), 9, 1, 0);
