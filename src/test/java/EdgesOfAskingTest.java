@@ -89,6 +89,7 @@ public final class EdgesOfAskingTest {
         Due.due("all five", bereaved(FIVE, 0, 1, 2, 3, 4).nobody(0), 31);
         Due.due("soft ones, with ounces", bereaved("TP902P902P902", 0, 1, 2).nobody(0), 7);
         Due.due("four and one who may", bereaved(FIVE, 0, 1, 2, 3).nobody(0), 0);
+        Due.due("four and the first one who may", bereaved(FIVE, 1, 2, 3, 4).nobody(0), 0);
         Due.due("four and kin of one", bereaved(FIVE + "K24", 0, 1, 2, 3).nobody(0), 4);
         Due.due("of age by a week", bereaved("TP910P950", 1).nobody(0), 2);
         Due.sentence("nobody: what (0, 1)");
@@ -180,6 +181,10 @@ public final class EdgesOfAskingTest {
         Due.sentence("RING: PEOPLE that come back to themselves");
         Due.due("nobody there", new BorrowedTears().ring(), 0);
         Due.due("nobody owes", debts().ring(), 0);
+        Due.due("one alone", Due.landOf("TP950").ring(), 0);
+        BorrowedTears two = bereaved("TP950P950", 0);
+        two.weep(1, 0);
+        Due.due("two, one owes the other", two.ring(), 0);
         Due.due("one owes another", debts(3, 4).ring(), 0);
         Due.due("the longest chain", debts(0, 1, 1, 2, 2, 3, 3, 4).ring(), 0);
         Due.due("the longest chain, down", debts(4, 3, 3, 2, 2, 1, 1, 0).ring(), 0);
@@ -261,6 +266,7 @@ public final class EdgesOfAskingTest {
         Due.due("one has used some", tears.weighed(3, 5, 2), 1);
         Due.due("either has used some", Due.landOf("TP920P920P920").weighed(3, 5, 2), 0);
         Due.due("all have used some", tears.weighed(3, 4, 2), 0);
+        Due.due("two of three have used some", Due.landOf("TP920P920P920").weighed(7, 7, 2), 0);
         Due.sentence("WEIGHED: each ONIONS by 2 ounces, each other one of them by its OUNCES (as they are now)");
         Due.due("both used some", tears.weighed(3, 4, 1), 3);
         Due.due("one of them", tears.weighed(3, 5, 1), 2);

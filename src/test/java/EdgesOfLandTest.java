@@ -207,6 +207,7 @@ public final class EdgesOfLandTest {
                 Due.due("owes", tears.owes(person, other), 0);
             }
         }
+        madeAnewWithFewer();
         Due.sentence("land: no ACTS; what was kept is gone; THE SEED stays");
         Due.due("acts", tears.about(4), 0);
         Due.due("undo", tears.undo(), -3);
@@ -214,6 +215,19 @@ public final class EdgesOfLandTest {
         Due.due("the other slot", tears.again(1), -3);
         Due.due("the seed", tears.seed(0L), 5L);
         Due.due("the text stays", tears.about(5), 13);
+    }
+
+    private static void madeAnewWithFewer() {
+        BorrowedTears fewer = Due.landOf("TP950P950P950K01K12");
+        fewer.funeral(2);
+        Due.tell(fewer, "TP120P340");
+        Due.due("fewer people", fewer.land(), 2);
+        Due.due("all their sorrow", fewer.about(6), 4);
+        Due.due("nobody is dead", fewer.about(1), 0);
+        Due.due("no kin", fewer.person(1, 3), 0);
+        Due.tell(fewer, "T");
+        Due.due("nobody any more", fewer.land(), 0);
+        Due.due("no sorrow", fewer.about(6), 0);
     }
 
     private static void funerals() {
