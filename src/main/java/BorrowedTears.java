@@ -789,18 +789,23 @@ public final class BorrowedTears {
 
         void remember(People people) {
             if (count >= MOST_ACTS) {
-                first = (first + 1) % MOST_ACTS;
+                first = inRing(first + 1);
                 count = MOST_ACTS - 1;
             }
-            before[(first + count) % MOST_ACTS].copyFrom(people);
+            before[inRing(first + count)].copyFrom(people);
             count++;
         }
 
         void takeLast(People people) {
             if (count > 0) {
                 count--;
-                people.copyFrom(before[(first + count) % MOST_ACTS]);
+                people.copyFrom(before[inRing(first + count)]);
             }
+        }
+
+        // floorMod, since % of a number below 0 would be no index.
+        private static int inRing(int act) {
+            return Math.floorMod(act, MOST_ACTS);
         }
     }
 
